@@ -1,0 +1,47 @@
+import java.nio.charset.StandardCharsets;
+import java.util.Arrays;
+
+/** Counts the answers that are not as due, and ends a test with exit code 1 if there was one. */
+final class Check {
+    static final int BAD = ChildPay.BAD, NO = ChildPay.NO, FULL = ChildPay.FULL, NONE = ChildPay.NONE,
+            NOTHING = ChildPay.NOTHING, INDEX = ChildPay.INDEX, SIZE = ChildPay.SIZE;
+    static final int[] FAR = {Integer.MIN_VALUE, Integer.MIN_VALUE + 1, -1000000, Integer.MAX_VALUE - 1, Integer.MAX_VALUE};
+
+    private int asked;
+    private int wrong;
+
+    void due(String call, long got, long want) {
+        asked++;
+        if (got == want) return;
+        wrong++;
+        System.out.println(call + " answered " + got + ", due is " + want);
+    }
+
+    void that(String what, boolean holds) {
+        due(what, holds ? 1 : 0, 1);
+    }
+
+    void end() {
+        System.out.println(asked + " answers, " + wrong + " wrong");
+        if (wrong != 0 || asked == 0) System.exit(1);
+    }
+
+    /** Puts a text on an empty tape. */
+    static void tape(ChildPay x, String text) {
+        byte[] bytes = text.getBytes(StandardCharsets.ISO_8859_1);
+        byte[] padded = Arrays.copyOf(bytes, (bytes.length + 11) / 12 * 12);
+        for (int i = 0; i < padded.length; i += 12) {
+            x.feed(four(padded, i), four(padded, i + 4), four(padded, i + 8));
+        }
+        x.trim(bytes.length);
+    }
+
+    static int law(ChildPay x, String text, int from) {
+        tape(x, text);
+        return x.law(from);
+    }
+
+    private static int four(byte[] bytes, int at) {
+        return (bytes[at] & 255) << 24 | (bytes[at + 1] & 255) << 16 | (bytes[at + 2] & 255) << 8 | bytes[at + 3] & 255;
+    }
+}
