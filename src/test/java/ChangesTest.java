@@ -65,6 +65,8 @@ public final class ChangesTest {
         c.due("count", x.count(0), 80);
         c.due("count not back", x.count(1), 79);
         c.due("known", x.known(0, 0, 0), 79);
+        c.due("no children of 80", x.known(0, 0, 1), 0);
+        c.due("no others of 80", x.known(0, 0, 2), 0);
     }
 
     private static void kinds() {

@@ -47,7 +47,8 @@ public final class LawsTest {
             "take 1 over 1 take 0", "take 1 over 100000 take 60", "take 1 night 0", "take 1 night 14", "take 1 other 0",
             "take 1 other 20", "take 1 least 0", "take 1 least 100000", "take 1 most 1", "take 1 most 100000",
             "take 1 least 5 most 5", "take 1 least 100000 most 100000", "take 1 least 0 most 1", "take 1 night 3 most 4",
-            "take 60 over 100000 take 60 night 14 other 20 least 99 most 100000", "take 5 over 9 take 1 other 4"};
+            "take 60 over 100000 take 60 night 14 other 20 least 99 most 100000", "take 5 over 9 take 1 other 4",
+            "take 5" + " ".repeat(66), " ".repeat(66) + "take 5"};
         for (String text : texts) {
             ChildPay x = new ChildPay();
             c.due("law '" + text + "'", Check.law(x, text, 119), 0);
@@ -110,6 +111,9 @@ public final class LawsTest {
         fault("take 5\u0000", 5);
         fault("take 5 \u0000", 7);
         fault("take\t5", 0);
+        fault("take 1:", 5);
+        fault("take 1/", 5);
+        fault("take 5 over 9 take 1 night" + " ".repeat(46), 72);
         fault("take \u00b2", 5);
         fault("take 5 \u00ff", 7);
         fault("take 5 night \u00b11", 13);

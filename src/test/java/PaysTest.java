@@ -42,6 +42,11 @@ public final class PaysTest {
         c.due("count", x.count(3), 100);
         c.due("paid", x.paid(1, 0), 98000000);
         c.due("over", x.over(0, 2), 99000000);
+        ChildPay small = hundredAWeek();
+        for (int i = 0; i < 100; i++) small.line(0, 1, 0);
+        c.due("100 lines pay 100 coins", small.payer(0, 0), 99);
+        small.marks(2);
+        c.due("100 gifts pay none", small.payer(0, 0), Check.NONE);
     }
 
     private static void marks() {
@@ -75,11 +80,16 @@ public final class PaysTest {
         for (int w = 0; w < 4; w++) c.due("left " + w, x.left(w, 0, 3), want[w]);
         c.due("oldest", x.oldest(0, 3), 1);
         c.due("over", x.over(0, 3), 0);
-        x.line(1, 250, 0);
+        x.line(2, 249, 0);
+        c.due("one coin is left", x.oldest(0, 3), 3);
+        c.due("one coin is left", x.owed(0, 3), 1);
+        x.marks(2);
+        x.line(3, 150, 1);
+        x.line(1, 250, 1);
         c.due("all is paid", x.owed(0, 3), 0);
         c.due("no oldest", x.oldest(0, 3), Check.NONE);
         c.due("just", x.over(0, 3), 0);
-        x.line(0, 1, 0);
+        x.line(0, 1, 1);
         c.due("one over", x.over(0, 3), 1);
         c.due("nothing left", x.left(3, 0, 3), 0);
         x.weeks(1);
@@ -201,8 +211,13 @@ public final class PaysTest {
         x.weeks(60);
         x.weeks(59);
         x.rate(500);
+        c.due("oldest of 120", x.oldest(0, 119), 0);
         c.due("owed", x.owed(0, 119), 14400000);
         c.due("interest", x.interest(0, 119), 6000 * 116 * 117 / 2);
+        for (int i = 0; i < 15; i++) x.line(119, 1000000, 0);
+        c.due("all of 120 are paid", x.oldest(0, 119), Check.NONE);
+        c.due("over", x.over(0, 119), 600000);
+        c.due("payer of the last", x.payer(119, 0), 14);
     }
 
     private static void forgiven() {
@@ -274,13 +289,13 @@ public final class PaysTest {
         x.line(7, 1, 5);
         x.line(7, 1, 0);
         x.forgive(3, 1);
-        x.forgive(119, 1);
+        x.forgive(0, 1);
         x.feed(0, 0, 0);
         x.trim(11);
         x.sheet(0, 120);
         x.sheet(1, 120);
         x.mark(0, 7, 1);
-        x.mark(1, 3, 1);
+        x.mark(1, 0, 1);
         x.mark(1, 8, 1);
         int[] want = {2, 1, 1, 2, 7, 2, 2, 11};
         for (int what = 0; what < want.length; what++) c.due("count " + what, x.count(what), want[what]);

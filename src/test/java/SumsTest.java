@@ -58,6 +58,9 @@ public final class SumsTest {
         ChildPay z = with("take 60 other 20", 100);
         z.change(0, 5, 0);
         c.due("0 at least", z.sum(0, 0, 0), 0);
+        ChildPay untold = with("take 10", 1000);
+        untold.change(0, 5, 0);
+        c.due("other not told", untold.sum(0, 0, 0), 100);
         ChildPay first = with("take 10 over 80 take 50 other 20", 100);
         first.change(0, 1, 0);
         c.due("ahead of A", first.sum(0, 0, 0), 8);
@@ -65,6 +68,11 @@ public final class SumsTest {
 
     private static void children() {
         ChildPay x = with("take 33", 100);
+        for (int i = 1; i <= 4; i++) {
+            ChildPay y = with("take 60", 100000);
+            for (int more = 1; more < i; more++) y.change(2, 1, 0);
+            c.due("children " + i, y.sum(0, 0, 0), 600 * new int[] {100, 150, 180, 200}[i - 1]);
+        }
         int[] want = {33, 49, 59, 66, 66};
         for (int i = 0; i < 5; i++) {
             c.due("children " + (i + 1), x.sum(0, 0, 0), want[i]);
