@@ -237,14 +237,14 @@ public final class ChildPay {
 
     public int payer(int week, int side) {
         if (!isPast(week) || !isBelow(side, SIDES)) return BAD;
-        fillDues(side, now);
+        settle(side, now);
         if (account.dues[week] == 0) return NONE;
         return bank.lineWithCoin(account.dueUpTo(week), now);
     }
 
     public int interest(int side, int k) {
         if (!isBelow(side, SIDES) || !isPast(k)) return BAD;
-        fillDues(side, k);
+        settle(side, k);
         int all = 0;
         for (int x = WEEKS_FREE_OF_INTEREST; x <= k; x++) {
             account.payOldestFirst(bank.paysUpTo(x));
@@ -273,15 +273,11 @@ public final class ChildPay {
         return now;
     }
 
-    private void fillDues(int side, int k) {
+    private void settle(int side, int k) {
         for (int week = 0; week <= k; week++) {
             account.dues[week] = dueOf(week, side, k);
         }
         account.weeks = k + 1;
-    }
-
-    private void settle(int side, int k) {
-        fillDues(side, k);
         account.payOldestFirst(bank.paysUpTo(k));
     }
 
@@ -548,7 +544,7 @@ public final class ChildPay {
 
     /** One LAW; its shares are hundredths. */
     private static final class Law {
-        static final int NO_BOUND = Integer.MAX_VALUE;
+        static final int NO_BOUND = 1000000000;
 
         int from;
         int share;
