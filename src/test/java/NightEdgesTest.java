@@ -308,6 +308,11 @@ public final class NightEdgesTest {
         x = counted();
         c.due("onto itself", x.copy(0, 0, 0, 0, 5), 5);
         holds("onto itself", x, 0, 1, 2, 3, 4, 5);
+        c.says("(From a SHEET, its place, to a SHEET, its place.)");
+        x = counted();
+        c.due("from 1, its place 2, to 0, its place 4", x.copy(1, 2, 0, 4, 1), 1);
+        holds("the place of SHEET 0", x, 0, 1, 2, 3, 4, 13);
+        c.due("there is no place 4 of SHEET 1", x.copy(1, 4, 0, 2, 1), Check.INDEX);
         ChildPay whole = sheets(120, 120);
         whole.mark(0, 0, 3);
         whole.mark(0, 119, -7);

@@ -10,6 +10,7 @@ public final class RefusalsTest {
     private static final int WEEKS_ASKED = 5;
 
     public static void main(String[] args) {
+        none();
         theFirstStands();
         changesNothing();
         fullChangesNothing();
@@ -104,6 +105,17 @@ public final class RefusalsTest {
         ChildPay x = used();
         c.due(call, ask.applyAsInt(x), want);
         c.that(call + " changes nothing", Arrays.equals(allOf(x), allOf(used())));
+    }
+
+    private static void none() {
+        c.says("NONE: there is none.");
+        ChildPay x = new ChildPay();
+        x.change(0, 0, 0);
+        c.due("no WEEK of taking back", x.told(0, 4), Check.NONE);
+        c.due("no NIGHTS by the SCHOOL", x.school(0, Check.NONE), Check.NONE);
+        c.due("no LAW", x.inForce(0), Check.NONE);
+        c.due("no WEEK with something LEFT", x.oldest(0, 0), Check.NONE);
+        c.due("no LINE that paid", x.payer(0, 0), Check.NONE);
     }
 
     private static void theFirstStands() {

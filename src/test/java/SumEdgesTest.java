@@ -97,7 +97,8 @@ public final class SumEdgesTest {
         for (int children = 0; children <= 5; children++) c.due("CHILDREN " + children, sum("take 33", 100, children, 0, 0), want[children]);
         c.due("1 of 2: cut", sum("take 1", 100, 2, 0, 0), 1);
         c.due("1 of 3: cut", sum("take 1", 100, 3, 0, 0), 1);
-        c.due("the greatest", sum("take 60", 100000, 4, 0, 0), 120000);
+        int[] all = {0, 60000, 90000, 108000, 120000, 120000};
+        for (int children = 0; children <= 5; children++) c.due("the greatest, CHILDREN " + children, sum("take 60", 100000, children, 0, 0), all[children]);
     }
 
     private static void byNights() {
