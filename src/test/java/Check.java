@@ -11,7 +11,8 @@ final class Check {
     static final int BAD = ChildPay.BAD, NO = ChildPay.NO, FULL = ChildPay.FULL, NONE = ChildPay.NONE,
             NOTHING = ChildPay.NOTHING, INDEX = ChildPay.INDEX, SIZE = ChildPay.SIZE;
     static final int[] FAR = {Integer.MIN_VALUE, Integer.MIN_VALUE + 1, -1000000, Integer.MAX_VALUE - 1, Integer.MAX_VALUE};
-    private static final Path DOCUMENT = Path.of("../shared/DOC.md");
+    static final String DOCUMENT = "../shared/DOC.md";
+    static final String PROGRAM = "src/main/java/ChildPay.java";
 
     private int asked;
     private int wrong;
@@ -65,13 +66,21 @@ final class Check {
         return x.law(from);
     }
 
-    private String document() {
-        if (document != null) return document;
+    /** A file's text with single blanks between its words. */
+    static String wordsOf(String path) {
+        return textOf(path).replaceAll("\\s+", " ");
+    }
+
+    static String textOf(String path) {
         try {
-            document = Files.readString(DOCUMENT).replaceAll("\\s+", " ");
+            return Files.readString(Path.of(path));
         } catch (IOException e) {
             throw new UncheckedIOException(e);
         }
+    }
+
+    private String document() {
+        if (document == null) document = wordsOf(DOCUMENT);
         return document;
     }
 

@@ -1,37 +1,35 @@
 import java.lang.reflect.Member;
 import java.lang.reflect.Method;
 import java.lang.reflect.Modifier;
-import java.util.Arrays;
+import java.util.ArrayList;
+import java.util.List;
 import java.util.Set;
 import java.util.TreeSet;
+import java.util.regex.Matcher;
+import java.util.regex.Pattern;
 
-/** The public face: the document's members and no others. */
+/** The public face: the document's members, as it writes them and in its order, and no others. */
 public final class FaceTest {
     private static final Check c = new Check();
-    private static final String METHODS = "change/3 isOf/2 takeBack/1 told/2 known/3 school/2 nights/2 feed/3 trim/1 law/1 inForce/1 "
-        + "sum/3 due/3 edge/2 line/3 marks/1 paid/2 owed/2 over/2 left/3 oldest/2 payer/2 interest/2 forgive/2 rate/1 weeks/1 "
-        + "sheet/2 mark/3 copy/5 lose/1 count/1";
-    private static final String CONSTANTS = "BAD FULL INDEX NO NONE NOTHING SIZE";
+    private static final String PROMISED = Check.wordsOf(Check.DOCUMENT);
+    private static final String WRITTEN = Check.wordsOf(Check.PROGRAM);
+    private static final String FACE = PROMISED.substring(PROMISED.indexOf("```java "), PROMISED.indexOf("## Terms"));
+    private static final int CALLS = 31;
 
     public static void main(String[] args) {
-        c.that("public and final", Modifier.isPublic(ChildPay.class.getModifiers()) && Modifier.isFinal(ChildPay.class.getModifiers()));
-        c.due("constructors", ChildPay.class.getDeclaredConstructors().length, 1);
-        c.due("public constructors", ChildPay.class.getConstructors().length, 1);
-        Set<String> methods = new TreeSet<>();
-        for (Method m : ChildPay.class.getDeclaredMethods()) {
-            c.that("synthetic " + m, !m.isSynthetic());
-            if (isHidden(m)) {
-                c.that("no private method bears a public one's name: " + m, !METHODS.contains(m.getName() + "/"));
-                continue;
-            }
-            methods.add(m.getName() + "/" + m.getParameterCount());
-            c.that("public int " + m, m.getReturnType() == int.class && Modifier.isPublic(m.getModifiers()) && !Modifier.isStatic(m.getModifiers()));
-            for (Class<?> p : m.getParameterTypes()) c.that("int alone " + m, p == int.class);
-        }
-        c.that("methods " + methods, methods.equals(new TreeSet<>(Arrays.asList(METHODS.split(" ")))));
-        Set<String> constants = new TreeSet<>();
-        Arrays.stream(ChildPay.class.getDeclaredFields()).filter(f -> !isHidden(f)).forEach(f -> constants.add(f.getName()));
-        c.that("constants " + constants, constants.equals(new TreeSet<>(Arrays.asList(CONSTANTS.split(" ")))));
+        List<String> promised = all("public int (\\w+\\([^)]*\\));", FACE);
+        c.due("calls of the face", promised.size(), CALLS);
+        c.that("the calls as the document writes them", promised.equals(all("public int (\\w+\\([^)]*\\)) \\{", WRITTEN)));
+        constants();
+        members(promised);
+        sections();
+        c.end();
+    }
+
+    private static void constants() {
+        List<String> promised = all("(public static final int [^;]*;)", FACE);
+        c.due("rows of constants", promised.size(), 1);
+        c.that("the constants as the document writes them", promised.equals(all("(public static final [^;]*;)", WRITTEN)));
         c.due("BAD", ChildPay.BAD, -2000000001);
         c.due("NO", ChildPay.NO, -2000000002);
         c.due("FULL", ChildPay.FULL, -2000000003);
@@ -39,7 +37,65 @@ public final class FaceTest {
         c.due("NOTHING", ChildPay.NOTHING, -2000000011);
         c.due("INDEX", ChildPay.INDEX, -2000000013);
         c.due("SIZE", ChildPay.SIZE, -2000000014);
-        c.end();
+    }
+
+    private static void members(List<String> promised) {
+        c.that("public and final", Modifier.isPublic(ChildPay.class.getModifiers()) && Modifier.isFinal(ChildPay.class.getModifiers()));
+        c.due("constructors", ChildPay.class.getDeclaredConstructors().length, 1);
+        c.due("public constructors", ChildPay.class.getConstructors().length, 1);
+        c.due("arguments of the constructor", ChildPay.class.getConstructors()[0].getParameterCount(), 0);
+        Set<String> names = new TreeSet<>();
+        for (String call : promised) names.add(nameOf(call));
+        int open = 0;
+        for (Method m : ChildPay.class.getDeclaredMethods()) {
+            c.that("synthetic " + m, !m.isSynthetic());
+            c.that("a promised name is public, no other is: " + m, isHidden(m) != names.contains(m.getName()));
+            if (isHidden(m)) continue;
+            open++;
+            c.that("public int " + m, m.getReturnType() == int.class && Modifier.isPublic(m.getModifiers()) && !Modifier.isStatic(m.getModifiers()));
+            for (Class<?> p : m.getParameterTypes()) c.that("int alone " + m, p == int.class);
+        }
+        c.due("public methods", open, CALLS);
+        for (Member f : ChildPay.class.getDeclaredFields()) {
+            c.that("no open field but the constants: " + f, isHidden(f) || FACE.contains(" " + f.getName() + " = -"));
+        }
+        for (Class<?> inside : ChildPay.class.getDeclaredClasses()) {
+            int how = inside.getModifiers();
+            c.that("static, not public: " + inside, Modifier.isStatic(how) && !Modifier.isPublic(how) && !Modifier.isProtected(how));
+        }
+    }
+
+    /** "Ahead of the calls .. the interface says: ---- x." */
+    private static void sections() {
+        Matcher section = Pattern.compile("Ahead of the calls ([^.]*) the interface says: (---- \\w+)\\.").matcher(PROMISED);
+        int calls = 0;
+        while (section.find()) {
+            List<String> promised = all("`(\\w+)`", section.group(1));
+            List<String> written = new ArrayList<>();
+            for (String call : all("public int (\\w+\\([^)]*\\)) \\{", behind(section.group(2)))) written.add(nameOf(call));
+            c.that(section.group(2) + " " + promised + " is " + written, promised.equals(written));
+            calls += promised.size();
+        }
+        c.due("calls with a section", calls, CALLS);
+    }
+
+    /** The program from a section's line up to the next one. */
+    private static String behind(String title) {
+        int start = WRITTEN.indexOf("// " + title + " ");
+        if (start < 0) return "";
+        int end = WRITTEN.indexOf("// ----", start + 1);
+        return end < 0 ? WRITTEN.substring(start) : WRITTEN.substring(start, end);
+    }
+
+    private static List<String> all(String pattern, String text) {
+        List<String> found = new ArrayList<>();
+        Matcher m = Pattern.compile(pattern).matcher(text);
+        while (m.find()) found.add(m.group(1));
+        return found;
+    }
+
+    private static String nameOf(String call) {
+        return call.substring(0, call.indexOf('('));
     }
 
     private static boolean isHidden(Member m) {

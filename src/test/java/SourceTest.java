@@ -1,5 +1,5 @@
-import java.nio.file.Files;
-import java.nio.file.Path;
+import java.util.ArrayList;
+import java.util.Arrays;
 import java.util.List;
 import java.util.regex.Matcher;
 import java.util.regex.Pattern;
@@ -12,10 +12,12 @@ public final class SourceTest {
         "\\bnative\\b", "\\bSystem\\.(?!arraycopy\\b)", "\\bThread\\b", "\\bObject\\b", "\\bhashCode\\b", "\\btoString\\b",
         "\\bdouble\\b", "\\bfloat\\b", "\\bstatic\\s*\\{"};
     private static final int MOST_METHOD_LINES = 60;
+    private static final int MOST_PARAMETERS = 7;
     private static final int MOST_CLASSES = 12;
+    private static final int LEAST_METHODS = 32;
 
-    public static void main(String[] args) throws Exception {
-        String text = Files.readString(Path.of("src/main/java/ChildPay.java"));
+    public static void main(String[] args) {
+        String text = Check.textOf(Check.PROGRAM);
         for (int i = 0; i < text.length(); i++) {
             if (text.charAt(i) > 126) c.that("a plain sign at " + i, false);
         }
@@ -27,18 +29,30 @@ public final class SourceTest {
         }
         int classes = code.split("\\bclass\\b", -1).length - 1;
         c.that("classes " + classes, classes <= MOST_CLASSES);
-        methodLengths(code.split("\n"));
+        for (String[] method : methods(code.split("\n"))) look(method);
         c.end();
     }
 
+    private static void look(String[] method) {
+        String head = method[0].trim();
+        c.that("method of " + method.length + " lines: " + head, method.length <= MOST_METHOD_LINES);
+        c.that("few parameters: " + head, head.split(",").length <= MOST_PARAMETERS);
+        boolean isConstructor = head.matches("(public )?[A-Z]\\w*\\(.*");
+        // The rows are made once: an object that each call makes would fill the room that all calls share.
+        c.that("makes no object: " + head, isConstructor || !Pattern.compile("\\bnew\\b").matcher(String.join("\n", method)).find());
+    }
+
     /** A method begins at a line that ends in ") {" outside all methods, and ends where its braces do. */
-    private static void methodLengths(String[] lines) {
+    private static List<String[]> methods(String[] lines) {
+        List<String[]> found = new ArrayList<>();
         for (int i = 0; i < lines.length; i++) {
             if (!lines[i].matches("( {4}| {8})[A-Za-z].*\\) \\{") || lines[i].matches(" *(if|for|while|switch)\\b.*")) continue;
             String indent = lines[i].replaceAll("\\S.*", "");
             int end = i;
             while (end < lines.length && !lines[end].equals(indent + "}")) end++;
-            c.that("method of " + (end - i + 1) + " lines: " + lines[i].trim(), end - i + 1 <= MOST_METHOD_LINES);
+            found.add(Arrays.copyOfRange(lines, i, Math.min(end + 1, lines.length)));
         }
+        c.that("methods: " + found.size(), found.size() > LEAST_METHODS);
+        return found;
     }
 }
